@@ -1,5 +1,13 @@
+import java.util.HashSet;
+import java.util.Random;
+import java.util.Set;
+
 /** Puts bytes on a desk's tape and reads its output, by the calls of the face alone. */
 final class Desks {
+    static final String TEXT = "The tape becomes the output's bytes; the desk packs what stands on the tape, the "
+        + "longest match first, the nearest of several; what it packs it tells, and what it tells it packs. A block is "
+        + "written in the way that takes the fewest bits, and of several ways that take as many the first is taken.";
+
     private Desks() {
     }
 
@@ -65,6 +73,19 @@ final class Desks {
             values[i] = text.charAt(i) & 255;
         }
         return values;
+    }
+
+    /** Noise in which no three bytes come again, so that every byte is a part. */
+    static int[] noise(int size, long seed) {
+        Random random = new Random(seed);
+        Set<Integer> seen = new HashSet<>();
+        int[] bytes = new int[size];
+        for (int i = 0; i < size; i++) {
+            do {
+                bytes[i] = random.nextInt(256);
+            } while (i > 1 && !seen.add(bytes[i - 2] << 16 | bytes[i - 1] << 8 | bytes[i]));
+        }
+        return bytes;
     }
 
     private static boolean repeats(int[] bytes, int at, int n, int times) {

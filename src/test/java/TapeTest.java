@@ -1,7 +1,5 @@
 import java.util.Arrays;
-import java.util.HashSet;
 import java.util.Random;
-import java.util.Set;
 import java.util.zip.CRC32;
 
 /** Promises 1 to 7, 16 and 20: a new object, feed, end, cut, flip, take, crc, output, about. */
@@ -156,7 +154,7 @@ public final class TapeTest {
         due.same("output", Desks.outputOf(desk), bytes);
         due.same("take()", desk.take(), packed);
 
-        int[] noise = noise(6000, 5);
+        int[] noise = Desks.noise(6000, 5);
         PackDesk full = Desks.with(noise);
         int size = full.pack();
         due.same("the output is more than 6000", size > 6000, true);
@@ -166,11 +164,11 @@ public final class TapeTest {
         due.same("about(1)", full.about(1), size);
 
         // The most that can be taken: stored blocks take 5 bytes each and 600 bytes are one.
-        PackDesk edge = Desks.with(noise(5950, 6));
+        PackDesk edge = Desks.with(Desks.noise(5950, 6));
         int edgeSize = edge.pack();
         due.same("10 stored blocks", edgeSize, 6000);
         due.same("take()", edge.take(), 6000);
-        PackDesk above = Desks.with(noise(5951, 6));
+        PackDesk above = Desks.with(Desks.noise(5951, 6));
         due.same("10 stored blocks", above.pack(), 6001);
         due.thrown("take()", above::take, IllegalStateException.class);
     }
@@ -181,7 +179,7 @@ public final class TapeTest {
         due.same("crc() of 0", Desks.with(0).crc(), 0xd202ef8d);
         Random random = new Random(7);
         for (int round = 0; round < 40; round++) {
-            int[] bytes = noise(random.nextInt(6001), round);
+            int[] bytes = Desks.noise(random.nextInt(6001), round);
             due.same("crc()", Desks.with(bytes).crc(), crcOf(bytes));
         }
         PackDesk desk = Desks.with(Desks.ofText("1234567890"));
@@ -233,18 +231,5 @@ public final class TapeTest {
         CRC32 crc = new CRC32();
         crc.update(Desks.asBytes(bytes));
         return (int) crc.getValue();
-    }
-
-    /** Noise in which no three bytes come again, so that every byte is a part. */
-    private static int[] noise(int size, long seed) {
-        Random random = new Random(seed);
-        Set<Integer> seen = new HashSet<>();
-        int[] bytes = new int[size];
-        for (int i = 0; i < size; i++) {
-            do {
-                bytes[i] = random.nextInt(256);
-            } while (i > 1 && !seen.add(bytes[i - 2] << 16 | bytes[i - 1] << 8 | bytes[i]));
-        }
-        return bytes;
     }
 }
