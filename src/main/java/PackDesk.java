@@ -339,31 +339,28 @@ public final class PackDesk {
         int search(Row row, int place, int longerThan) {
             int most = Math.min(LONGEST, row.size - place);
             int best = Math.max(longerThan, SHORTEST - 1);
+            if (place < 0 || place >= earlier.length || best >= most) {
+                return 0;
+            }
             boolean found = false;
-            int from = best < most && place >= 0 && place < earlier.length ? earlier[place] : NONE;
-            for (int tries = 0; tries < REACH && best < most; tries++) {
-                if (from < 0 || from >= earlier.length || place - from > REACH) {
-                    break;
-                }
-                int same = sameBytes(row.bytes, from, place, best, most);
-                if (same > best) {
-                    best = same;
-                    distance = place - from;
-                    found = true;
+            int from = earlier[place];
+            for (int tries = 0; tries < REACH && from >= 0 && place - from <= REACH && best < most; tries++) {
+                // A row that differs where the best one ended can't be longer.
+                if (row.bytes[from + best] == row.bytes[place + best]) {
+                    int same = sameBytes(row.bytes, from, place, most);
+                    if (same > best) {
+                        best = same;
+                        distance = place - from;
+                        found = true;
+                    }
                 }
                 from = earlier[from];
             }
             return found ? best : 0;
         }
 
-        /** How many bytes are the same at both, or 0 as soon as it can't be more than the best so far. */
-        private static int sameBytes(int[] bytes, int from, int place, int best, int most) {
-            if (from < 0 || from >= place || best < 0 || best >= most || place + most > bytes.length) {
-                return 0;
-            }
-            if (bytes[from + best] != bytes[place + best]) {
-                return 0;
-            }
+        /** How many bytes are the same at both places; the later is followed by so many at least. */
+        private static int sameBytes(int[] bytes, int from, int place, int most) {
             int same = 0;
             while (same < most && bytes[from + same] == bytes[place + same]) {
                 same++;

@@ -276,7 +276,8 @@ public final class PackTest {
         for (int i = 0; i < mixed.length; i++) {
             int kind = i / 700 % 4;
             mixed[i] = kind == 0 ? random.nextInt(256)
-                : kind == 1 ? Desks.TEXT.charAt(i % Desks.TEXT.length()) : kind == 2 ? random.nextInt(3) : 32 + random.nextInt(40);
+                : kind == 1 ? Desks.TEXT.charAt(i % Desks.TEXT.length())
+                : kind == 2 ? random.nextInt(3) : 32 + random.nextInt(40);
         }
         same(mixed);
         // Weights that rise as Fibonacci's numbers do: the codes reach beyond what 7 and 15 allow.

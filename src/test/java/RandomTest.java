@@ -56,7 +56,8 @@ public final class RandomTest {
             if (random.nextInt(4) == 0) {
                 bits.append("10");
             } else {
-                bits.append("01").append(Plain.number(random.nextInt(30), 5)).append(Plain.number(random.nextInt(30), 5));
+                bits.append("01");
+                bits.append(Plain.number(random.nextInt(30), 5)).append(Plain.number(random.nextInt(30), 5));
                 bits.append(alphabet(random));
             }
             int more = random.nextInt(3000);

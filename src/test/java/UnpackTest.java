@@ -17,6 +17,7 @@ public final class UnpackTest {
 
     public static void main(String[] args) {
         goodTapes();
+        longCodes();
         behindTheLast();
         outputStays();
         fault1();
@@ -60,6 +61,34 @@ public final class UnpackTest {
         // As many codes as may be: 286 and 30.
         good(LAST + dynamic(codes(286, 256, 1, 285, 2, 0, 2), codes(30, 0, 1, 29, 1)) + "10" + "11" + "0" + "0",
             new int[259]);
+    }
+
+    /** Codes of every length up to 15, the last two of 15: of literals and of distances. */
+    private static void longCodes() {
+        int[] literals = new int[258];
+        int[] distances = new int[16];
+        for (int i = 0; i < 15; i++) {
+            literals[100 + i] = i + 1;
+            distances[i] = i + 1;
+        }
+        literals[114] = 0;
+        literals[256] = 15;
+        literals[257] = 15;
+        distances[15] = 15;
+        String end = "111111111111110";
+        String three = "111111111111111";
+        String head = LAST + dynamic(literals, distances);
+        good(head + "0" + "11111111111110" + end, 100, 113);
+        good(head + "0" + three + "0" + end, 100, 100, 100, 100);
+        // Distance 193 is told by code 15 and noughts, 129 by code 14.
+        bad(head + "0" + three + three + "000000", 8, (head.length() + 1 + 15 + 15 + 6 + 7) / 8);
+        literals[256] = 14;
+        String over = LAST + dynamic(literals, distances);
+        bad(over + "0".repeat(60), 5, (over.length() + 7) / 8);
+        literals[256] = 15;
+        distances[15] = 0;
+        String under = LAST + dynamic(literals, distances);
+        bad(under + "0".repeat(60), 5, (under.length() + 7) / 8);
     }
 
     private static void behindTheLast() {
@@ -170,8 +199,8 @@ public final class UnpackTest {
     private static void fault5Codes() {
         String noDistance = "0000";
         // Literals: too few, too many, none for 256, 256 alone.
-        for (int[] wrong : new int[][] {codes(257, 256, 2, 7, 1), codes(257, 256, 1, 7, 1, 8, 1), codes(257, 6, 1, 7, 1),
-            codes(257, 256, 1), codes(257), codes(257, 256, 15, 7, 1)}) {
+        for (int[] wrong : new int[][] {codes(257, 256, 2, 7, 1), codes(257, 256, 1, 7, 1, 8, 1),
+            codes(257, 6, 1, 7, 1), codes(257, 256, 1), codes(257), codes(257, 256, 15, 7, 1)}) {
             String bits = LAST + dynamic(wrong, new int[1]);
             bad(bits + noDistance, 5, (bits.length() + 7) / 8);
         }
@@ -207,7 +236,8 @@ public final class UnpackTest {
         bad(last + "0".repeat(20), 6, (last.length() + 7) / 8);
         String over = LAST + DYNAMIC + alphabet(257, 3) + words[18] + "1111111" + words[18]
             + Plain.number(115 - 11, 7) + words[2] + words[2] + words[2] + words[2] + words[16] + "00";
-        good(over.substring(0, over.length() - words[16].length() - 2) + words[0] + words[1] + words[1] + "00" + "11", 253);
+        String without = over.substring(0, over.length() - words[16].length() - 2);
+        good(without + words[0] + words[1] + words[1] + "00" + "11", 253);
         // The three 2s that 16 tells are the distances': no whole code.
         bad(over + "0000", 5, (over.length() + 7) / 8);
     }
