@@ -1,18 +1,17 @@
 import java.util.Arrays;
-import java.util.List;
 import java.util.Random;
 import java.util.zip.Deflater;
 
 /** Promises 14 and 15: unpack, and each fault with its place. Tapes are written as texts of bits, in their order. */
 public final class UnpackTest {
     private static final int NONE = PackDesk.NONE;
-    private static final String LAST = "1";
-    private static final String MORE = "0";
-    private static final String STORED = "00";
-    private static final String FIXED = "10";
-    private static final String DYNAMIC = "01";
-    private static final String[] LITERAL = Plain.codes(Plain.fixedLiterals());
-    private static final String[] DISTANCE = Plain.codes(Plain.fixedDistances());
+    private static final String LAST = Bits.LAST;
+    private static final String MORE = Bits.MORE;
+    private static final String STORED = Bits.STORED;
+    private static final String FIXED = Bits.FIXED;
+    private static final String DYNAMIC = Bits.DYNAMIC;
+    private static final String[] LITERAL = Bits.LITERAL;
+    private static final String[] DISTANCE = Bits.DISTANCE;
     private static final Due due = new Due();
 
     public static void main(String[] args) {
@@ -53,13 +52,14 @@ public final class UnpackTest {
         good(LAST + FIXED + LITERAL['z'] + LITERAL[284] + "11111" + DISTANCE[0] + LITERAL[256], run);
         good(LAST + FIXED + LITERAL[1] + LITERAL[2] + LITERAL[258] + DISTANCE[1] + LITERAL[256], 1, 2, 1, 2, 1, 2);
         // DYNAMIC with no distance code, with one of length 1, and with one that is not code 0.
-        good(LAST + dynamic(codes(257, 256, 1, 7, 1), new int[1]) + "01", 7);
-        good(LAST + dynamic(codes(258, 256, 2, 7, 1, 257, 2), new int[] {1}) + "0" + "11" + "0" + "10",
+        good(LAST + Bits.dynamic(Bits.codes(257, 256, 1, 7, 1), new int[1]) + "01", 7);
+        good(LAST + Bits.dynamic(Bits.codes(258, 256, 2, 7, 1, 257, 2), new int[] {1}) + "0" + "11" + "0" + "10",
             7, 7, 7, 7);
-        good(LAST + dynamic(codes(258, 256, 2, 7, 1, 257, 2), new int[] {0, 1}) + "00" + "11" + "0" + "10",
+        good(LAST + Bits.dynamic(Bits.codes(258, 256, 2, 7, 1, 257, 2), new int[] {0, 1}) + "00" + "11" + "0" + "10",
             7, 7, 7, 7, 7);
         // As many codes as may be: 286 and 30.
-        good(LAST + dynamic(codes(286, 256, 1, 285, 2, 0, 2), codes(30, 0, 1, 29, 1)) + "10" + "11" + "0" + "0",
+        int[] most = Bits.codes(286, 256, 1, 285, 2, 0, 2);
+        good(LAST + Bits.dynamic(most, Bits.codes(30, 0, 1, 29, 1)) + "10" + "11" + "0" + "0",
             new int[259]);
     }
 
@@ -77,17 +77,17 @@ public final class UnpackTest {
         distances[15] = 15;
         String end = "111111111111110";
         String three = "111111111111111";
-        String head = LAST + dynamic(literals, distances);
+        String head = LAST + Bits.dynamic(literals, distances);
         good(head + "0" + "11111111111110" + end, 100, 113);
         good(head + "0" + three + "0" + end, 100, 100, 100, 100);
         // Distance 193 is told by code 15 and noughts, 129 by code 14.
         bad(head + "0" + three + three + "000000", 8, (head.length() + 1 + 15 + 15 + 6 + 7) / 8);
         literals[256] = 14;
-        String over = LAST + dynamic(literals, distances);
+        String over = LAST + Bits.dynamic(literals, distances);
         bad(over + "0".repeat(60), 5, (over.length() + 7) / 8);
         literals[256] = 15;
         distances[15] = 0;
-        String under = LAST + dynamic(literals, distances);
+        String under = LAST + Bits.dynamic(literals, distances);
         bad(under + "0".repeat(60), 5, (under.length() + 7) / 8);
     }
 
@@ -199,23 +199,23 @@ public final class UnpackTest {
     private static void fault5Codes() {
         String noDistance = "0000";
         // Literals: too few, too many, none for 256, 256 alone.
-        for (int[] wrong : new int[][] {codes(257, 256, 2, 7, 1), codes(257, 256, 1, 7, 1, 8, 1),
-            codes(257, 6, 1, 7, 1), codes(257, 256, 1), codes(257), codes(257, 256, 15, 7, 1)}) {
-            String bits = LAST + dynamic(wrong, new int[1]);
+        for (int[] wrong : new int[][] {Bits.codes(257, 256, 2, 7, 1), Bits.codes(257, 256, 1, 7, 1, 8, 1),
+            Bits.codes(257, 6, 1, 7, 1), Bits.codes(257, 256, 1), Bits.codes(257), Bits.codes(257, 256, 15, 7, 1)}) {
+            String bits = LAST + Bits.dynamic(wrong, new int[1]);
             bad(bits + noDistance, 5, (bits.length() + 7) / 8);
         }
         // Distances: one of length 2, two of length 2, too many, one of length 15.
-        int[] literals = codes(258, 256, 2, 7, 1, 257, 2);
+        int[] literals = Bits.codes(258, 256, 2, 7, 1, 257, 2);
         for (int[] wrong : new int[][] {{2}, {0, 2}, {2, 2}, {1, 1, 1}, {1, 2}, {15}, {2, 2, 2}}) {
-            String bits = LAST + dynamic(literals, wrong);
+            String bits = LAST + Bits.dynamic(literals, wrong);
             bad(bits + noDistance, 5, (bits.length() + 7) / 8);
         }
-        good(LAST + dynamic(literals, new int[] {1, 2, 2}) + "0" + "10", 7);
+        good(LAST + Bits.dynamic(literals, new int[] {1, 2, 2}) + "0" + "10", 7);
     }
 
     private static void fault6() {
-        String head = LAST + DYNAMIC + alphabet(257, 1);
-        String[] words = Plain.codes(ALPHABET);
+        String head = LAST + DYNAMIC + Bits.alphabet(257, 1);
+        String[] words = Bits.WORD;
         // 16 at the first: told as soon as it is taken, ahead of its own bits.
         bad(head + words[16], 6, (head.length() + words[16].length() + 7) / 8);
         bad(head + words[16] + "00" + "1".repeat(50), 6, (head.length() + words[16].length() + 7) / 8);
@@ -234,7 +234,7 @@ public final class UnpackTest {
         String last = head + words[18] + "1111111" + words[18] + Plain.number(114 - 11, 7) + words[2] + words[2]
             + words[2] + words[2] + words[16] + "01";
         bad(last + "0".repeat(20), 6, (last.length() + 7) / 8);
-        String over = LAST + DYNAMIC + alphabet(257, 3) + words[18] + "1111111" + words[18]
+        String over = LAST + DYNAMIC + Bits.alphabet(257, 3) + words[18] + "1111111" + words[18]
             + Plain.number(115 - 11, 7) + words[2] + words[2] + words[2] + words[2] + words[16] + "00";
         String without = over.substring(0, over.length() - words[16].length() - 2);
         good(without + words[0] + words[1] + words[1] + "00" + "11", 253);
@@ -250,20 +250,20 @@ public final class UnpackTest {
         bad(LAST + FIXED + LITERAL[1] + LITERAL[257] + DISTANCE[30], 7, 3);
         bad(LAST + FIXED + LITERAL[1] + LITERAL[257] + DISTANCE[31] + "1111", 7, 3);
         // One distance code: the other bit begins none, and no more is taken.
-        int[] literals = codes(265, 256, 2, 7, 1, 264, 2);
-        String one = LAST + dynamic(literals, new int[] {1}) + "0" + "11" + "1";
+        int[] literals = Bits.codes(265, 256, 2, 7, 1, 264, 2);
+        String one = LAST + Bits.dynamic(literals, new int[] {1}) + "0" + "11" + "1";
         bad(one, 7, (one.length() + 7) / 8);
         bad(one + "0".repeat(33), 7, (one.length() + 7) / 8);
         // None at all: behind the length's bits, where none is taken.
-        int[] longer = codes(270, 256, 2, 7, 1, 269, 2);
+        int[] longer = Bits.codes(270, 256, 2, 7, 1, 269, 2);
         for (int pad = 0; pad < 8; pad++) {
-            String none = MORE + FIXED + LITERAL[200].repeat(pad) + LITERAL[256] + LAST + dynamic(longer, new int[1])
-                + "0" + "11" + "01";
+            String none = MORE + FIXED + LITERAL[200].repeat(pad) + LITERAL[256]
+                + LAST + Bits.dynamic(longer, new int[1]) + "0" + "11" + "01";
             bad(none + "1".repeat(16), 7, (none.length() + 7) / 8);
             bad(none.substring(0, none.length() - 1), none.length() % 8 == 1 ? 1 : 7, (none.length() - 1 + 7) / 8);
         }
         // The literals' length of 264 has no bits, and its distance code is missing.
-        String noBits = LAST + dynamic(literals, new int[1]) + "11";
+        String noBits = LAST + Bits.dynamic(literals, new int[1]) + "11";
         bad(noBits + "1111", 7, (noBits.length() + 7) / 8);
     }
 
@@ -352,40 +352,6 @@ public final class UnpackTest {
                 due.same("output", Desks.outputOf(desk), bytes);
             }
         }
-    }
-
-    /** All 19 have a code, so that each row can be told. */
-    private static final int[] ALPHABET = {4, 4, 4, 4, 4, 4, 4, 4, 4, 4, 4, 4, 4, 5, 5, 5, 5, 5, 5};
-
-    private static String alphabet(int literals, int distances) {
-        StringBuilder bits = new StringBuilder();
-        bits.append(Plain.number(literals - 257, 5)).append(Plain.number(distances - 1, 5)).append(Plain.number(15, 4));
-        for (int symbol : Plain.ORDER) {
-            bits.append(Plain.number(ALPHABET[symbol], 3));
-        }
-        return bits.toString();
-    }
-
-    /** A DYNAMIC block from its kind on up to its parts. */
-    private static String dynamic(int[] literals, int[] distances) {
-        int[] row = Arrays.copyOf(literals, literals.length + distances.length);
-        System.arraycopy(distances, 0, row, literals.length, distances.length);
-        StringBuilder bits = new StringBuilder(DYNAMIC + alphabet(literals.length, distances.length));
-        String[] words = Plain.codes(ALPHABET);
-        List<int[]> steps = Plain.steps(row);
-        for (int[] step : steps) {
-            bits.append(words[step[0]]).append(Plain.number(step[1], step[2]));
-        }
-        return bits.toString();
-    }
-
-    /** So many lengths, 0 but for those that are named with their symbols. */
-    private static int[] codes(int size, int... named) {
-        int[] lengths = new int[size];
-        for (int i = 0; i < named.length; i += 2) {
-            lengths[named[i]] = named[i + 1];
-        }
-        return lengths;
     }
 
     private static void good(String bits, int... want) {
