@@ -6,6 +6,8 @@ public final class ScaleBoundsTest {
     private static final int MIN = Integer.MIN_VALUE;
     private static final int MAX = Integer.MAX_VALUE;
     private static final Due due = new Due();
+    /** One desk for many weights, so that nothing of a measure() is left for the next. */
+    private static final PackDesk used = new PackDesk();
 
     public static void main(String[] args) {
         weights();
@@ -177,6 +179,15 @@ public final class ScaleBoundsTest {
         // With the limit 3 the rows have 5, 7 and 7: the last goes each time.
         lengthsAre(new int[] {1, 1, 1, 1, 1}, 3, 3, 3, 2, 2, 2);
         lengthsAre(new int[] {1, 1, 1, 1, 16}, 3, 3, 3, 3, 3, 1);
+        // Three behind 64 that had many small pairs.
+        int[] ones = new int[64];
+        int[] six = new int[64];
+        Arrays.fill(ones, 1);
+        Arrays.fill(six, 6);
+        for (int limit = 6; limit <= 15; limit++) {
+            lengthsAre(ones, limit, six);
+            lengthsAre(new int[] {1, 2, 1000}, limit, 2, 2, 1);
+        }
     }
 
     /** Fibonacci's numbers: n symbols would have codes up to n - 1; a limit of n - 1 changes nothing, one less does. */
@@ -271,6 +282,11 @@ public final class ScaleBoundsTest {
         }
         due.same("measure(" + limit + ") of " + Arrays.toString(weights), desk.measure(limit), sum);
         due.same("lengths of " + Arrays.toString(weights), first(desk, 64), Arrays.copyOf(want, 64));
+        for (int i = 0; i < 64; i++) {
+            used.weigh(i, i < weights.length ? weights[i] : 0);
+        }
+        due.same("measure(" + limit + ") again of " + Arrays.toString(weights), used.measure(limit), sum);
+        due.same("lengths again of " + Arrays.toString(weights), first(used, 64), Arrays.copyOf(want, 64));
     }
 
     private static int[] first(PackDesk desk, int count) {
