@@ -31,14 +31,19 @@ final class Bits {
 
     /** A DYNAMIC block from its kind on up to its parts. */
     static String dynamic(int[] literals, int[] distances) {
-        int[] row = Arrays.copyOf(literals, literals.length + distances.length);
-        System.arraycopy(distances, 0, row, literals.length, distances.length);
+        int[] row = joined(literals, distances);
         StringBuilder bits = new StringBuilder(DYNAMIC + alphabet(literals.length, distances.length));
         List<int[]> steps = Plain.steps(row);
         for (int[] step : steps) {
             bits.append(WORD[step[0]]).append(Plain.number(step[1], step[2]));
         }
         return bits.toString();
+    }
+
+    static int[] joined(int[] literals, int[] distances) {
+        int[] row = Arrays.copyOf(literals, literals.length + distances.length);
+        System.arraycopy(distances, 0, row, literals.length, distances.length);
+        return row;
     }
 
     /** So many lengths, 0 but for those that are named with their symbols. */
